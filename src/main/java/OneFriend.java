@@ -29,7 +29,8 @@ public final class OneFriend {
     private final Village trial = new Village();
     private boolean imaged;
 
-    private final Town[] towns = new Town[MOST_TOWNS];
+    /** The next town: one that could not be read is read over. */
+    private Town nextTown = new Town();
     private int townsMade;
     private final byte[] text = new byte[MOST_TEXT];
     private int textLength;
@@ -158,17 +159,13 @@ public final class OneFriend {
         if (townsMade >= MOST_TOWNS) {
             return FULL;
         }
-        Town town = towns[townsMade];
-        if (town == null) {
-            town = new Town();
-            towns[townsMade] = town;
-        }
-        boolean isUnderstood = town.understands(text, textLength);
+        boolean isUnderstood = nextTown.understands(text, textLength);
         textLength = 0;
         if (!isUnderstood) {
-            return FAULTY - town.place;
+            return FAULTY - nextTown.place;
         }
-        now.town = town;
+        now.town = nextTown;
+        nextTown = new Town();
         townsMade++;
         return townsMade - 1;
     }

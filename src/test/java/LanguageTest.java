@@ -100,7 +100,7 @@ public final class LanguageTest {
             .replaceAll("\"(\\\\.|[^\"\\\\])*\"", "\"\"").replaceAll("'(\\\\.|[^'\\\\])'", "' '");
         for (String word : new String[] {"throw", "throws", "try", "catch", "finally", "synchronized", "assert", "package", "Object",
             "protected", "native", "volatile", "transient", "equals", "hashCode", "getClass", "Random", "Thread", "yield", "var",
-            "Exact", "System.out", "System.nanoTime", "System.currentTimeMillis", "System.exit", "NaN", "Class", "while", "do"}) {
+            "Exact", "System.out", "System.nanoTime", "System.currentTimeMillis", "System.exit", "NaN", "Class"}) {
             check.holds("no " + word, !Pattern.compile("\\b" + Pattern.quote(word) + "\\b").matcher(code).find());
         }
         for (String sign : new String[] {"->", "::", "@", "Exact(", "import java.util.*", "import static"}) {
