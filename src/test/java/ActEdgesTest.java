@@ -39,6 +39,9 @@ public final class ActEdgesTest {
         acts("act 1 0 10", 11, 10);
         acts("act 1 1 10", 8 ^ 6, 20, 11, 10);
         acts("act 1 2 10", 28, 12, 20, 11, 10);
+        acts("act 1 1 4", 4, 20, 11, 10);
+        acts("act 1 1 8", 0, 20, 11, 10);
+        acts("act 1 1 -3", -5 ^ 6, 20, 11, 10);
         second("SECRET", 2, 3);
         acts("act 1 0 10", 31, 30, 10);
         acts("act 1 1 10", 28, 11, 30, 10);

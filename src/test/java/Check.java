@@ -24,6 +24,10 @@ final class Check {
         due(what, 1, so ? 1 : 0);
     }
 
+    int all() {
+        return right + wrong;
+    }
+
     int wrongs() {
         return wrong;
     }

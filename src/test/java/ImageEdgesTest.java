@@ -15,6 +15,7 @@ public final class ImageEdgesTest {
         judgeOtherwise();
         undo();
         kept();
+        rows();
         notKept();
         e.close();
     }
@@ -177,6 +178,46 @@ public final class ImageEdgesTest {
         e.is("at 1 3", 5);
         e.is("at 9 3", 0);
         e.is("at 9 2", 2);
+    }
+
+    /** The BOOK's rows, each of which is the first that is otherwise in its turn. */
+    private static void rows() {
+        e.begin("THE IMAGE: the BOOK's rows, all 12, and the WISHES, all 6", Arrays.copyOf(PLAIN, 6));
+        for (int pair = 1; pair <= 12; pair++) {
+            e.run("book " + pair + " " + (pair == 2 || pair == 4 || pair == 11 ? 1 : 0));
+        }
+        for (int pair = 9; pair < 15; pair++) {
+            e.run("wish " + pair + " " + (pair % 2 == 0));
+        }
+        e.run("image", "book -1 0");
+        e.repeat(12, "book 14 99");
+        e.run("wish -1 true");
+        e.repeat(6, "wish 0 true");
+        e.keeps("looked", 0);
+        e.run("undo");
+        e.is("count 3", 12);
+        e.is("count 2", 6);
+        e.is("kept 0", 3);
+        e.is("kept 1", 3);
+        // The rows 1, 3 and 10 tell of one in common: of 1 and 2, of 1 and 3, of 1 and 5.
+        e.is("looked", 1);
+        e.run("friends 0 1 true", "friends 0 2 true");
+        e.is("looked", 3);
+        e.run("friends 1 2 true", "friends 2 3 true", "friends 0 2 false");
+        e.is("looked", 0);
+        for (int pair = 9; pair < 15; pair++) {
+            e.is("at " + pair + " 0", 0);
+        }
+        e.run("friends 3 4 true");
+        e.is("kept 0", 2);
+        e.run("friends 4 5 true");
+        e.is("kept 0", 3);
+        e.run("friends 3 5 true");
+        e.is("kept 0", 2);
+        e.run("book -1 0", "undo");
+        e.is("looked", 1);
+        e.run("book -1 0", "book 14 1", "undo", "friends 0 1 true", "friends 0 2 true", "friends 0 3 true");
+        e.is("looked", 4);
     }
 
     private static void notKept() {

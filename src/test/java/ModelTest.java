@@ -2,7 +2,9 @@ import java.util.Random;
 
 /** Long runs of calls by lot, the same each time, answered by the program and by the model. */
 public final class ModelTest {
-    private static final int RUNS = 260, CALLS = 512;
+    private static final int RUNS = 900, CALLS = 512;
+    /** As many calls as one step of a run makes at most: it feeds a whole text. */
+    private static final int MOST_AT_ONCE = 104;
     private final Check check = new Check("ModelTest");
     private final Random lot = new Random(20261118);
     private OneFriend x;
@@ -19,17 +21,19 @@ public final class ModelTest {
     private void run(int run) {
         x = new OneFriend();
         m = new Model();
-        int calls = 0;
+        int before = check.all();
         if (run % 4 != 0) {
-            calls += begin(run);
+            begin(run);
         }
-        for (; calls < CALLS; calls++) {
-            call(run, lot.nextInt(calls < 60 ? 60 : 110));
+        // Nothing is promised of calls behind the 512th.
+        for (int steps = 0; check.all() - before <= CALLS - MOST_AT_ONCE && steps < CALLS; steps++) {
+            call(run, lot.nextInt(steps < 60 ? 60 : 110));
         }
+        check.holds("run " + run + " makes 512 calls at most", check.all() - before <= CALLS);
     }
 
     /** People of some kinds and a few friendships, so that less is left to the lot. */
-    private int begin(int run) {
+    private void begin(int run) {
         int people = 1 + lot.nextInt(6);
         for (int i = 0; i < people; i++) {
             int kind = run % 4 == 1 ? 0 : lot.nextInt(7);
@@ -42,7 +46,6 @@ public final class ModelTest {
             int b = lot.nextInt(people);
             check.due("run " + run + " friends", m.friends(a, b, true), x.friends(a, b, true));
         }
-        return people + friends;
     }
 
     /** Mostly from 0 to under the end; now and then a little or far outside. */
@@ -195,7 +198,7 @@ public final class ModelTest {
         if (lot.nextInt(3) > 0) {
             int length = Math.max(0, m.w.pairs().size() + lot.nextInt(5) - 2);
             check.due(c + "tape", m.tape(tape, 4, length), x.tape(tape, 4, length));
-            for (int i = 0; i < length - from; i++) {
+            for (int i = 0; from >= -2 && i < length - from; i++) {
                 boolean so = m.at(i, 0) == 1 ^ lot.nextInt(30) == 0;
                 check.due(c + "item", m.item(tape, from + i, so ? 256 : 0), x.item(tape, from + i, so ? 256 : 0));
             }
