@@ -59,11 +59,20 @@ final class Edges {
 
     /** The call, which asks or is refused, answers so, and all that can be seen then is as without it. */
     void keeps(String call, long due) {
+        check.due(sentence + ": " + call, due, now.call(call));
+        holds(call + " changes nothing", !isSeen(call));
+    }
+
+    /** Whether anything that can be seen is otherwise than without the call. */
+    boolean isSeen(String call) {
         if (seen == null) {
             seen = seenAfter(null);
         }
-        check.due(sentence + ": " + call, due, now.call(call));
-        check.holds(sentence + ": " + call + " changes nothing", seen.equals(seenAfter(call)));
+        return !seen.equals(seenAfter(call));
+    }
+
+    void holds(String what, boolean so) {
+        check.holds(sentence + ": " + what, so);
     }
 
     void answer(String call, long due, long got) {

@@ -144,8 +144,8 @@ public final class ImageEdgesTest {
         // The crowded scene takes an image of its own.
         e.is("undo", 3);
         e.keeps("told 0", 1);
-        e.begin("THE IMAGE: empty: no WISHES, no BOOK, no TOWN", "person 0 0", "person 0 0", "image", "wish 0 true", "book 0 5", "'want 5 a=0;make 6 a=0",
-            "town", "friends 0 1 true", "complain 0 1", "undo");
+        e.begin("THE IMAGE: empty: no WISHES, no BOOK, no TOWN", "person 0 0", "person 0 0", "image", "wish 0 true", "book 0 5",
+            "'want 5 a=0;make 6 a=0", "town", "friends 0 1 true", "complain 0 1", "undo");
         e.keepsEach(0, "count 2", "count 3", "kept 0", "kept 1", "told 2", "of 0 4");
         e.keeps("looked", Edges.NOT_ANY);
         e.keeps("at 0 2", 1);
@@ -247,7 +247,8 @@ public final class ImageEdgesTest {
         e.keeps("count 1", 6);
         e.run("'want 9 a=0");
         e.keeps("town", Edges.FULL);
-        e.begin("which TOWN holds: none; a FAULT leaves it so", "person 0 0", "person 0 0", "image", "'want 9 a=0", "town", "undo", "'want 8 a=", "town");
+        e.begin("which TOWN holds: none; a FAULT leaves it so", "person 0 0", "person 0 0", "image", "'want 9 a=0", "town", "undo",
+            "'want 8 a=", "town");
         e.keeps("at 0 2", 1);
     }
 }

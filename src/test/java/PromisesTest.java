@@ -299,12 +299,13 @@ public final class PromisesTest {
     }
 
     private void fault(String text, int place) {
+        fresh();
         due("fault of " + text, -10 - place, town(text));
         due("bytes after a fault", 0, x.count(4));
+        due("none is a town", 0, x.count(1));
     }
 
     private void faults() {
-        fresh();
         String[] tooEarly = {"", "w", "want", "want ", "want 1", "want 12", "want 1 ", "want 1 a", "want 1 a=", "want 1 a=1;",
             "want 1 a=1&", "want 1 a=1|", "want 1 (", "want 1 !", "want 1 (a=1", "make", "break 3 ", "brea"};
         for (String text : tooEarly) {
@@ -337,7 +338,6 @@ public final class PromisesTest {
         fault("want 1 !(!(!a=1))", 11);
         fault("want 1 ((((a=1))))&(!(!(a=1|!(b=1))))", 23);
         fault("want 1 ((((a=1))))&!(!(a=1&b=1)|!!a=1)|!(!(!(a=1)))", 43);
-        due("none is a town", 0, x.count(1));
     }
 
     private void wanted() {

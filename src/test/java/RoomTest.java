@@ -3,7 +3,7 @@ import java.lang.management.ManagementFactory;
 
 /** How much room a run takes: little is made by a call, as all calls of a run live in one room. */
 public final class RoomTest {
-    private static final int CALLS = 512;
+    private static final int CALLS = 200;
     private static final long MOST_BYTES_NEW = 10_000, MOST_BYTES_A_CALL = 64;
     private static final Check check = new Check("RoomTest");
 
@@ -19,6 +19,7 @@ public final class RoomTest {
         long made = threads.getThreadAllocatedBytes(self) - before;
         check.holds("a new one takes " + made + " bytes", made <= MOST_BYTES_NEW);
         for (int call = 0; call < 24; call++) {
+            x = crowded();
             before = threads.getThreadAllocatedBytes(self);
             for (int i = 0; i < CALLS; i++) {
                 ask(x, call, i);

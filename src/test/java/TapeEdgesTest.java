@@ -118,7 +118,8 @@ public final class TapeEdgesTest {
             e.keepsEach(Edges.NO, "read -1 0", "read 6 0", "read MIN 0", "read MAX 0", "read 5 0", "read 5 -1", "read 6 -1");
         }
         for (int sort = 0; sort <= 4; sort++) {
-            e.begin("read: NO: no such place", "tape 0 " + sort + " 60", "tape 1 " + sort + " 1", "tape 2 " + sort + " 0", "item 0 59 1", "item 1 0 1");
+            e.begin("read: NO: no such place", "tape 0 " + sort + " 60", "tape 1 " + sort + " 1", "tape 2 " + sort + " 0",
+                "item 0 59 1", "item 1 0 1");
             e.keeps("read 0 59", 1);
             e.keeps("read 0 0", 0);
             e.keeps("read 1 0", 1);
@@ -159,7 +160,8 @@ public final class TapeEdgesTest {
         shifted("shift 1 2 0 4 1", 1, new long[] {1, 2, 3, 4, 9}, 7, 8, 9);
         shifted("shift 5 59 0 0 1", 1, new long[] {6, 2, 3, 4, 5}, 7, 8, 9);
         shifted("shift 5 55 0 0 5", 5, new long[] {0, 0, 0, 0, 6}, 7, 8, 9);
-        for (String none : new String[] {"shift 0 0 1 0 0", "shift 0 5 1 3 0", "shift 0 5 0 5 0", "shift 0 0 3 0 0", "shift 3 0 3 0 0", "shift 3 0 5 60 0"}) {
+        for (String none : new String[] {"shift 0 0 1 0 0", "shift 0 5 1 3 0", "shift 0 5 0 5 0", "shift 0 0 3 0 0",
+            "shift 3 0 3 0 0", "shift 3 0 5 60 0"}) {
             shifted(none, 0, as, 7, 8, 9);
         }
         for (int sort = 0; sort <= 4; sort++) {
@@ -175,14 +177,15 @@ public final class TapeEdgesTest {
 
     private static void shiftRefused() {
         e.begin("shift: NONE: tapes", counted());
-        e.keepsEach(Edges.NONE, "shift -1 0 0 0 1", "shift 6 0 0 0 1", "shift 0 0 -1 0 1", "shift 0 0 6 0 1", "shift MIN 0 0 0 1", "shift 0 0 MAX 0 1",
-            "shift 6 0 6 0 0", "shift -1 0 4 0 1", "shift 4 0 6 0 1", "shift 2 0 -1 0 1", "shift 6 -1 0 0 1");
+        e.keepsEach(Edges.NONE, "shift -1 0 0 0 1", "shift 6 0 0 0 1", "shift 0 0 -1 0 1", "shift 0 0 6 0 1", "shift MIN 0 0 0 1",
+            "shift 0 0 MAX 0 1", "shift 6 0 6 0 0", "shift -1 0 4 0 1", "shift 4 0 6 0 1", "shift 2 0 -1 0 1", "shift 6 -1 0 0 1");
         e.keepsEach(Edges.NOTHING, "shift 4 0 0 0 1", "shift 0 0 4 0 1", "shift 4 0 4 0 0", "shift 4 0 2 0 0", "shift 2 0 4 0 1", "shift 4 -1 0 0 1",
             "shift 0 0 4 0 -1");
         e.keepsEach(Edges.CAST, "shift 0 0 2 0 1", "shift 2 0 0 0 1", "shift 0 0 2 0 0", "shift 0 -1 2 0 1", "shift 0 0 2 0 -1", "shift 2 9 0 9 9");
         e.begin("shift: PLACE: n, i or j is below 0", counted());
-        e.keepsEach(Edges.PLACE, "shift 0 0 1 0 -1", "shift 0 -1 1 0 1", "shift 0 0 1 -1 1", "shift 0 1 1 1 -1", "shift 0 -1 0 0 0", "shift 0 0 0 -1 0",
-            "shift 0 MIN 1 0 1", "shift 0 0 1 MIN 1", "shift 0 0 1 0 MIN", "shift 0 -1 1 0 MAX", "shift 0 5 1 3 -1", "shift 0 5 1 3 -2");
+        e.keepsEach(Edges.PLACE, "shift 0 0 1 0 -1", "shift 0 -1 1 0 1", "shift 0 0 1 -1 1", "shift 0 1 1 1 -1", "shift 0 -1 0 0 0",
+            "shift 0 0 0 -1 0", "shift 0 MIN 1 0 1", "shift 0 0 1 MIN 1", "shift 0 0 1 0 MIN", "shift 0 -1 1 0 MAX", "shift 0 5 1 3 -1",
+            "shift 0 5 1 3 -2");
         e.begin("shift: PLACE: beyond either's end", counted());
         e.keepsEach(Edges.PLACE, "shift 0 0 0 0 6", "shift 0 1 0 0 5", "shift 0 0 0 1 5", "shift 0 0 1 0 4", "shift 1 0 0 0 4", "shift 0 3 1 0 3",
             "shift 0 0 1 1 3", "shift 1 0 0 3 3", "shift 0 5 1 0 1", "shift 0 0 1 3 1", "shift 0 6 1 0 0", "shift 0 0 1 4 0", "shift 0 0 3 0 1",

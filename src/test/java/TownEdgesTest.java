@@ -280,22 +280,21 @@ public final class TownEdgesTest {
 
     private static void faultsLeaveNothing() {
         String faulty = "want 7 a<9;make 8 " + repeated("!(a<9)&", 11) + "a?";
-        e.begin("town: a FAULT: nothing of it is left", "person 0 0", "person 0 0");
-        for (int i = 0; i < 4; i++) {
-            e.is("'" + faulty, 97);
-            e.is("town", -10 - 96);
+        for (int price : new int[] {0, 2}) {
+            e.begin("town: a FAULT: nothing of it is left", "person 0 0", "person 0 0");
+            for (int i = 0; i < 4; i++) {
+                e.is("'" + faulty, 97);
+                e.is("town", -10 - 96);
+            }
+            e.is("at 0 2", 1);
+            e.is("at 0 3", 1);
+            e.run("'make 2 " + (price == 2 ? "a=0&b=1" : "a=0&b=0"));
+            e.is("town", 0);
+            e.is("at 0 2", 1);
+            e.is("at 0 3", price);
+            e.run("friends 0 1 true");
+            e.is("at 0 3", 1);
         }
-        e.is("at 0 2", 1);
-        e.is("at 0 3", 1);
-        e.is("'make 2 !a=0|b=1&f=0", 19);
-        e.is("town", 0);
-        e.is("at 0 2", 1);
-        e.is("at 0 3", 2);
-        e.run("friends 0 1 true");
-        e.is("at 0 3", 1);
-        e.run("friends 0 1 false", "'make 2 !b=1&a=0");
-        e.is("town", 1);
-        e.is("at 0 3", 0);
     }
 
     /** Three people, 0 and 1, 1 and 2 FRIENDS, in a YEAR; WANTED of the three PAIRS: 5, or 2, if E does not hold. */
