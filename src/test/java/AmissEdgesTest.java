@@ -53,6 +53,8 @@ public final class AmissEdgesTest {
         e.begin("AMISS: by how many more or fewer, together", plain(6));
         e.run(ALL_FRIENDS);
         e.keeps("amiss 2", 15 * 3);
+        e.run("'" + Edges.most("want"), "town");
+        e.keeps("amiss 2", 15 * 788);
         e.run("'want 99 a=4;want 5 a=0", "town");
         e.keeps("amiss 0", 32767);
         e.keeps("amiss 2", 95 + 5 + 9 * 4);
@@ -125,6 +127,14 @@ public final class AmissEdgesTest {
         // As it is 0 has two; without 1 or 2 it has one.
         e.keeps("goes 0", 1);
         e.keeps("goes 1", 0);
+        e.begin("GOES: the fewest PAIRS, by however much", plain(4));
+        e.run("'want 9 b=1;want 1 b=3", "town");
+        e.keeps("goes 0", 3);
+        e.keeps("goes 1", 1);
+        e.begin("GOES: of several the first, by however much", plain(3));
+        e.run("'want 1 b=1;want 5 a=0&b=2;want 9 a=1", "town");
+        e.keeps("goes 0", 0);
+        e.keeps("goes 1", 1);
     }
 
     private static void befriends() {
@@ -159,7 +169,46 @@ public final class AmissEdgesTest {
         e.run("'want 1 b=5&a<2&d=0&e=0", "town");
         // Neither 0 nor 1 may be a stranger, or the newcomer none with no FRIENDS: 1 has a FRIEND then, but so has 5.
         e.keeps("befriends 0 0 0", 1);
+        befriendsFewest();
+        befriendsAmongOthers();
         kindsOfNewcomers();
+    }
+
+    private static void befriendsFewest() {
+        // By 1 the PAIR of 1 and the newcomer is AMISS by 90, but it alone; by none both are by 1, by 2 and 3, too, two are.
+        e.begin("befriends: the fewest PAIRS, by however much", plain(2));
+        e.run("'want 1 a=0&b=2&f=0;want 1 a=1&f=0&e=0;want 90 a=1&f=0&e=1;want 2 a=1&f=1", "town");
+        e.keeps("befriends 0 0 0", 1);
+        e.keeps("befriends 0 0 1", 1);
+        e.begin("befriends: of several the least set, by however much", plain(2));
+        e.run("'want 1 a=0&b=2&f=0;want 1 a=1&f=0&e=0;want 90 a=1&f=0&e=1", "town");
+        e.keeps("befriends 0 0 0", 1);
+        e.keeps("befriends 0 0 1", 1);
+        // 2 has to be a FRIEND, or both others.
+        e.begin("befriends: of several the least set, not the one of the fewest FRIENDS", plain(3));
+        e.run("'want 1 b=1&d=1&e=1;want 1 a=2&f=0&e<2", "town");
+        e.keeps("befriends 0 0 0", 3);
+        e.keeps("befriends 0 0 1", 0);
+    }
+
+    private static void befriendsAmongOthers() {
+        e.begin("befriends: the newcomer is one of a MAYOR's all others", "person 0 0", "person 0 0", "person 4 0", "friends 0 2 true",
+            "friends 1 2 true", "'want 1 b=1", "town");
+        e.keeps("amiss 1", 0);
+        e.keeps("befriends 0 0 0", 0);
+        e.keeps("befriends 0 0 1", 1);
+        e.begin("befriends: d and e tell of the newcomer, too", plain(2));
+        e.run("'want 1 b=1&d=0", "town");
+        e.keeps("befriends 0 0 0", 1);
+        e.keeps("befriends 0 0 1", 0);
+        e.run("'want 1 b=1&e=0", "town");
+        e.keeps("befriends 0 0 0", 2);
+        e.keeps("befriends 0 0 1", 0);
+        e.begin("befriends: the newcomer is one of a SHY one's FRIENDS", "person 5 0", "person 0 0", "person 0 0", "person 0 0",
+            "friends 0 1 true", "friends 0 2 true", "friends 0 3 true", "'want 0 a<9", "town");
+        e.keeps("amiss 1", 3);
+        e.keeps("befriends 0 0 0", 1);
+        e.keeps("befriends 0 0 1", 0);
     }
 
     /** A PAIR of strangers that wants n in common: whether the newcomer can be it. */
@@ -279,5 +328,13 @@ public final class AmissEdgesTest {
         e.run("year", "year");
         e.keeps("next 60 0", 3);
         e.keeps("next 2 0", 0);
+        // Now one is AMISS by 9; a YEAR on two are by 1.
+        e.begin("next: the fewest PAIRS, by however much", plain(3));
+        e.run("'want 9 y=0&b=1;want 1 y=1&a=0;want 1 y=2&a=1;want 9 y>2", "town");
+        e.keeps("next 1 0", 0);
+        e.keeps("next 1 1", 1);
+        e.keeps("next 2 0", 0);
+        e.keeps("next 2 1", 1);
+        e.keeps("next 60 0", 0);
     }
 }

@@ -104,6 +104,11 @@ public final class BookEdgesTest {
         meanIs(2, 3);
         e.run("friends 0 1 true");
         meanIs(4, 3);
+        mostInCommon("MEAN: the most there is");
+        meanIs(12, 1);
+        e.run("friends 0 1 false");
+        // The two have 12 in common still, 8 PAIRS with one of them 9, the 6 others 12.
+        meanIs(52, 5);
         e.begin("MEAN: 15 PAIRS", Edges.SIX);
         meanIs(0, 1);
         e.run("friends 0 1 true", "friends 0 2 true");
@@ -114,6 +119,17 @@ public final class BookEdgesTest {
         meanIs(2, 5);
         e.run("friends 0 5 true");
         meanIs(2, 3);
+    }
+
+    /** Six who count 3 each, and all are FRIENDS. */
+    private static void mostInCommon(String sentence) {
+        e.begin(sentence);
+        for (int one = 0; one < 6; one++) {
+            e.run("person 6 0", "row " + one + " 0 3");
+            for (int other = 0; other < one; other++) {
+                e.run("friends " + other + " " + one + " true");
+            }
+        }
     }
 
     private static void wish() {
@@ -188,6 +204,8 @@ public final class BookEdgesTest {
         }
         e.keeps("kept 0", 0);
         e.keeps("kept 1", 6);
+        e.run("'" + Edges.most("make"), "town");
+        e.keeps("kept 1", 6 * 792);
     }
 
     private static void book() {
@@ -251,6 +269,11 @@ public final class BookEdgesTest {
         e.keeps("looked", Edges.NOT_ANY);
         e.run("book 2 2");
         e.keeps("looked", 11);
+        mostInCommon("LOOKED at: the most in common that there is");
+        e.run("book 0 12", "book 14 12");
+        e.keeps("looked", Edges.NOT_ANY);
+        e.run("book 14 13", "book 14 99");
+        e.keeps("looked", 2);
         e.begin("LOOKED at: COMMON as it is now", "person 0 0", "person 0 0", "person 3 0", "friends 0 2 true", "friends 1 2 true", "book 0 1",
             "book 1 0", "book 0 0");
         e.keeps("looked", 0);

@@ -61,6 +61,10 @@ public final class ChangeEdgesTest {
         e.begin("FIRST CHANGE: the last PAIR", plain(6));
         e.run("'want 1 f=0&a=4", "town");
         firstIs(14, 0);
+        // The PAIR 0 would be AMISS by 2, no more by 9; without the PAIR 2, which costs nothing, fewer would be so by less.
+        e.begin("FIRST CHANGE: the fewest PAIRS, by however much, at whatever PRICE", plain(3));
+        e.run("'want 9 b=1&f=0;want 2 b=1&f=1;want 1 a=0&b=2&f=0;want 5 a=1&f=0;make 9 a=0", "town");
+        firstIs(1, 2);
     }
 
     private static void cheapestIs(long price, long many, long lesser, long other) {
@@ -131,6 +135,16 @@ public final class ChangeEdgesTest {
         e.begin("CHEAPEST: the PRICES as they are now", plain(4));
         e.run("'want 1 f=0&d=0&e=0;make 6 a=0;make 5 a=1;make 1 a=2&d=0;make 50 d>0", "town");
         cheapestIs(7, 2, 0, 5);
+        // Once 2 is a FRIEND of 0 or 1, that with the other is dearer.
+        e.begin("CHEAPEST: the PRICES as they are now, of PAIRS that have one in common", plain(3));
+        e.run("friends 0 1 true", "'make 5 e=0;make 9 e=1;make 30 e=2", "town");
+        cheapestIs(10, 2, 1, 2);
+        e.begin("CHEAPEST: the greatest PRICE that there is", plain(3));
+        e.run("friends 0 1 true", "'" + Edges.most("make"), "town");
+        cheapestIs(2 * 792, 2, 1, 2);
+        e.begin("CHEAPEST: of several with two the first by the lesser PAIR, whichever the other", plain(4));
+        e.run("'want 1 f=0&d=0&e=0;make 2 a<9", "town");
+        cheapestIs(4, 2, 0, 5);
         e.begin("CHEAPEST: one to break, one to make, each at its PRICE", plain(3));
         e.run("friends 0 1 true", "'want 1 f=1&b=1;want 1 f=0&a=0&b=2;make 5 a<9;break 7 a<9", "town");
         cheapestIs(12, 2, 0, 1);

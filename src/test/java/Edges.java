@@ -1,4 +1,5 @@
 import java.util.ArrayList;
+import java.util.Collections;
 import java.util.List;
 
 /** Sentences of the document, each with calls at its edges: what they answer, and that a refused or asking call changes nothing. */
@@ -25,6 +26,12 @@ final class Edges {
 
     Edges(String name) {
         check = new Check(name);
+    }
+
+    /** As many CLAUSES of a word as 100 bytes hold, of 99 each, for each PAIR: 8 of want, of make, 7 of break. */
+    static String most(String word) {
+        String clause = word + " 99 a<9";
+        return String.join(";", Collections.nCopies(101 / (clause.length() + 1), clause));
     }
 
     /** A new object, for a sentence, on which these calls are made first. */

@@ -14,6 +14,8 @@ public final class ImageEdgesTest {
         judgeEnds();
         judgeOtherwise();
         undo();
+        othersAfterUndo();
+        newestImage();
         kept();
         rows();
         notKept();
@@ -129,6 +131,44 @@ public final class ImageEdgesTest {
         e.keeps("told 0", 2);
         e.run("image", "undo");
         e.keeps("told 0", 2);
+    }
+
+    private static void othersAfterUndo() {
+        e.begin("undo: one who came since is not there: all others are fewer", "person 0 0", "person 0 0", "person 4 2", "friends 0 2 true",
+            "friends 1 2 true", "image", "person 0 0", "person 0 0");
+        e.is("alls", 0);
+        e.is("at 0 1", 0);
+        e.run("undo");
+        e.keeps("alls", 4);
+        e.keeps("at 0 1", 1);
+        e.keeps("amiss 0", 6);
+        e.keeps("told 1", 3);
+        e.keeps("goes 1", 1);
+    }
+
+    /** What was told by hand ahead of an image is told otherwise ahead of the next one. */
+    private static void newestImage() {
+        e.begin("undo: the WISHES and the BOOK of the newest image", Arrays.copyOf(PLAIN, 6));
+        e.run("wish 0 true", "wish 1 true", "book 0 0", "book 1 0", "complain 3 1", "image", "wish -1 true", "book -1 0", "wish 5 true",
+            "wish 14 false", "book 2 1", "book 3 0", "complain 3 2", "image", "wish -1 true", "book -1 0", "wish 9 false", "wish 9 false",
+            "wish 9 false", "book 9 9", "book 9 9", "book 9 9", "complain 3 3", "undo");
+        e.keeps("count 2", 2);
+        e.keeps("count 3", 2);
+        e.keeps("of 3 4", 2);
+        e.keeps("kept 0", 1);
+        e.keeps("looked", 0);
+        e.run("friends 2 3 true");
+        e.keeps("kept 0", 2);
+        e.run("friends 4 5 true");
+        e.keeps("kept 0", 1);
+        e.run("friends 2 3 false", "friends 0 1 true", "friends 0 2 true");
+        e.keeps("looked", Edges.NOT_ANY);
+        e.run("friends 1 3 true");
+        e.keeps("looked", 1);
+        e.begin("undo: an image lasts", "person 0 0", "image");
+        e.repeat(500, "year");
+        e.is("undo", 1);
+        e.is("told 0", 0);
     }
 
     private static void kept() {

@@ -18,49 +18,63 @@ import java.util.regex.Pattern;
 
 /** The rules of LANGUAGE.md that can be seen from the source (its path is the argument) or the compiled class. */
 public final class LanguageTest {
-    private static final String FACE = "person/2 of/2 friends/3 pair/2 at/2 row/3 feed/1 town/0 year/0 told/1 amiss/1 alls/0 first/1"
-        + " cheapest/1 goes/1 befriends/3 complain/2 made/0 far/2 towns/2 next/2 odds/1 mean/1 wish/2 kept/1 book/2 looked/0"
-        + " judge/2 image/0 undo/0 act/3 trace/1 taken/2 count/1 tape/3 item/3 read/2 shift/5";
-    private static final Set<String> LONGS = Set.of("odds", "mean", "read");
+    private static final String[] FACE = {"int person(int, int)", "int of(int, int)", "int friends(int, int, boolean)", "int pair(int, int)",
+        "int at(int, int)", "int row(int, int, int)", "int feed(int)", "int town()", "int year()", "int told(int)", "int amiss(int)",
+        "int alls()", "int first(int)", "int cheapest(int)", "int goes(int)", "int befriends(int, int, int)", "int complain(int, int)",
+        "int made()", "int far(int, int)", "int towns(int, int)", "int next(int, int)", "long odds(int)", "long mean(int)",
+        "int wish(int, boolean)", "int kept(int)", "int book(int, int)", "int looked()", "int judge(int, int)", "int image()", "int undo()",
+        "int act(int, int, int)", "int trace(int)", "int taken(int, int)", "int count(int)", "int tape(int, int, int)",
+        "int item(int, int, long)", "long read(int, int)", "int shift(int, int, int, int, int)"};
+    private static final String[] CONSTANTS = {"int NONE = -1", "int BAD = -2", "int STATE = -3", "int FULL = -4", "long NO = " + Long.MIN_VALUE};
     private static final Check check = new Check("LanguageTest");
 
     private LanguageTest() {
     }
 
-    public static void main(String[] args) throws IOException {
+    public static void main(String[] args) throws IOException, IllegalAccessException {
         String source = Files.readString(Path.of(args[0]), StandardCharsets.UTF_8);
         face();
+        constants();
         classes();
         words(source);
         check.close();
     }
 
     private static void face() {
-        Set<String> face = new TreeSet<>(List.of(FACE.split(" ")));
+        Set<String> face = new TreeSet<>(List.of(FACE));
         Set<String> found = new TreeSet<>();
         check.holds("the class is public and final", Modifier.toString(OneFriend.class.getModifiers()).equals("public final"));
         for (Method method : OneFriend.class.getDeclaredMethods()) {
             int modifiers = method.getModifiers();
             if (Modifier.isPublic(modifiers)) {
-                found.add(method.getName() + "/" + method.getParameterCount());
-                Class<?> answer = LONGS.contains(method.getName()) ? long.class : int.class;
-                check.holds(method + " answers as told", method.getReturnType() == answer && !Modifier.isStatic(modifiers));
+                List<String> types = new ArrayList<>();
+                for (Class<?> type : method.getParameterTypes()) {
+                    types.add(type.getName());
+                }
+                found.add(method.getReturnType().getName() + " " + method.getName() + "(" + String.join(", ", types) + ")");
+                check.holds(method + " is an object's", Modifier.toString(modifiers).equals("public"));
             } else {
                 check.holds(method + " is private", Modifier.isPrivate(modifiers));
             }
         }
         check.holds("the face is " + face + ", not " + found, face.equals(found));
+        Constructor<?>[] constructors = OneFriend.class.getDeclaredConstructors();
+        check.holds("one public constructor of no arguments", constructors.length == 1 && constructors[0].getParameterCount() == 0
+            && Modifier.isPublic(constructors[0].getModifiers()));
+        check.holds("it is above Object alone", OneFriend.class.getSuperclass() == Object.class && OneFriend.class.getInterfaces().length == 0);
+    }
+
+    private static void constants() throws IllegalAccessException {
         Set<String> constants = new TreeSet<>();
         for (Field field : OneFriend.class.getDeclaredFields()) {
             if (Modifier.isPublic(field.getModifiers())) {
-                constants.add(field.getName());
+                check.holds(field + " is a constant", Modifier.toString(field.getModifiers()).equals("public static final"));
+                constants.add(field.getType() + " " + field.getName() + " = " + field.get(null));
             } else {
                 check.holds(field + " is private", Modifier.isPrivate(field.getModifiers()));
             }
         }
-        check.holds("the constants", constants.equals(Set.of("NONE", "BAD", "STATE", "FULL", "NO")));
-        Constructor<?>[] constructors = OneFriend.class.getDeclaredConstructors();
-        check.holds("one public constructor", constructors.length == 1 && Modifier.isPublic(constructors[0].getModifiers()));
+        check.holds("the constants are not " + constants, constants.equals(new TreeSet<>(List.of(CONSTANTS))));
     }
 
     private static void classes() {
@@ -68,8 +82,8 @@ public final class LanguageTest {
         all.add(OneFriend.class);
         check.holds("twelve classes at most", all.size() <= 12);
         Set<String> names = new HashSet<>();
-        for (String call : FACE.split(" ")) {
-            names.add(call.substring(0, call.indexOf('/')));
+        for (String call : FACE) {
+            names.add(call.substring(call.indexOf(' ') + 1, call.indexOf('(')));
         }
         for (Class<?> one : all) {
             int own = 0;

@@ -202,6 +202,17 @@ public final class PeopleEdgesTest {
         e.begin("row: NONE, BAD, STATE, the first that is named", scene);
         e.keepsEach(Edges.NONE, "row 3 0 4", "row 0 4 4", "row 0 -1 -1", "row 1 4 0", "row 1 -1 4", "row -1 4 4");
         e.keepsEach(Edges.BAD, "row 1 0 4", "row 1 3 -1");
+        e.begin("row: each of six has its own, of four parts, which the YEARS leave", "person 6 0", "person 6 1", "person 6 2", "person 6 3",
+            "person 6 4", "person 6 5");
+        for (int place = 0; place < 24; place++) {
+            int told = 1 + place % 3;
+            e.is("row " + place / 4 + " " + place % 4 + " " + told, 0);
+        }
+        e.repeat(6, "year");
+        for (int place = 0; place < 24; place++) {
+            int told = 1 + place % 3;
+            e.is("row " + place / 4 + " " + place % 4 + " " + told, told);
+        }
         for (int kind = 0; kind <= 5; kind++) {
             e.begin("row: STATE: another KIND", "person " + kind + " 1");
             e.keeps("row 0 0 1", Edges.STATE);

@@ -368,6 +368,8 @@ public final class TownEdgesTest {
         e.keeps("at 0 2", 0);
         e.run("'want 99 a=0;want 99 b=1;want 99 f=0;want 99 f=1;want 99 a<9;want 99 d=0;want 99 e=0", "town");
         e.keeps("at 0 2", 99 * 6);
+        e.run("'" + Edges.most("want"), "town");
+        e.keeps("at 0 2", 99 * 8);
     }
 
     private static void prices() {
@@ -393,5 +395,9 @@ public final class TownEdgesTest {
         e.keeps("at 0 3", 198);
         e.run("friends 0 1 true");
         e.keeps("at 0 3", 99);
+        e.begin("PRICE: the greatest that there is", "person 0 0", "person 0 0", "'" + Edges.most("make"), "town");
+        e.keeps("at 0 3", 99 * 8);
+        e.run("friends 0 1 true", "'" + Edges.most("break"), "town");
+        e.keeps("at 0 3", 99 * 7);
     }
 }
